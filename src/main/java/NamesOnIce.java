@@ -805,18 +805,20 @@ public final class NamesOnIce {
     private static final class Skater {
         final int[] steps = new int[MOST_SQUARES];
         final int[] gain = new int[MOST_SQUARES];
+        private final int[] readable = new int[MOST_SQUARES];
         private final int[] queue = new int[MOST_SQUARES];
         private int queued;
 
         void roam(Town town, int from) {
             for (int i = 0; i < MOST_SQUARES; i++) {
                 steps[i] = NONE;
+                readable[i] = town.readableIn(i);
             }
             queued = 0;
             if (!town.bearsSkater(from)) {
                 return;
             }
-            enter(from, 0, town.readableIn(from));
+            enter(from, 0, readable[from]);
             for (int i = 0; i < queued; i++) {
                 leave(town, queue[i]);
             }
@@ -838,7 +840,7 @@ public final class NamesOnIce {
             if (!town.bearsSkater(to)) {
                 return;
             }
-            int gained = gain[from] + town.readableIn(to);
+            int gained = gain[from] + readable[to];
             if (steps[to] == NONE) {
                 enter(to, steps[from] + 1, gained);
             } else if (steps[to] == steps[from] + 1) {

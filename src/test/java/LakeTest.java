@@ -61,6 +61,27 @@ public final class LakeTest {
         due.is("2 the page stays", x.count(4), 1);
         due.is("2 what sledges() did stays", x.count(5), 1);
         due.is("2 numbers begin anew", x.write(0, 0, 0, 1, 5, 2), 0);
+        nothingOfTheOldLake();
+    }
+
+    private static void nothingOfTheOldLake() {
+        NamesOnIce x = new NamesOnIce();
+        x.write(2, 0, 0, 1, 50, 2);
+        x.write(0, 0, 0, 1, 50, 2);
+        x.saw(0);
+        x.lake(2, 2);
+        due.is("2 owes", x.owes(0, 1, false), 0);
+        due.is("2 rest", x.rest(1), 0);
+        due.is("2 there", x.count(2), 0);
+        due.is("2 in its square", x.square(0, 2), 0);
+        due.is("2 read", x.skate(0, 0, 1), 0);
+        due.is("2 sledges", x.sledges(3, 200, 0), 0);
+        due.is("2 fish", x.fish(0), 0);
+        due.is("2 as many days", Due.pass(x, "c9"), 0);
+        x.write(2, 1, 2, 3, 50, 2);
+        due.is("2 a new debt is not saved", x.about(0, 7), 2);
+        due.is("2 nor is its worth the old one", x.about(0, 6), 51);
+        due.is("2 days", Due.pass(x, "t2"), 1);
     }
 
     private static void ice() {

@@ -89,7 +89,8 @@ public final class OwesTest {
         x.fish(1);
         due.is("18 gone ones are not", x.sledges(1, 200, 1), 5);
         due.is("18 nothing is sawn by it", x.square(0, 2), 1);
-        due.is("18 done", x.count(5), 14);
+        due.is("18 none that it bears", x.sledges(1, 3, 1), 0);
+        due.is("18 done", x.count(5), 15);
     }
 
     private static void sledgesOfLikeWorth() {
@@ -172,6 +173,14 @@ public final class OwesTest {
         y.write(0, 0, 2, 5, 4, 1);
         y.write(0, 0, 3, 5, 8, 1);
         y.write(0, 0, 4, 5, 16, 1);
+        int[] sums = {1, 2, 4, 8, 16};
+        for (int p = 0; p < 5; p++) {
+            NamesOnIce z = new NamesOnIce();
+            z.write(0, 0, p, 5, sums[p], 1);
+            z.write(0, 0, (p + 1) % 5, 5, sums[p], 1);
+            due.is("19 two pay", z.settled(0), 2);
+            due.is("19 three alone, three together", z.settled(1), 4);
+        }
         due.is("19 five payments", y.settled(0), 5);
         due.is("19 one group", y.settled(1), 1);
     }

@@ -5,6 +5,7 @@ public final class ToldTest {
 
     public static void main(String[] args) {
         image();
+        imageOfSaved();
         imageOfAnotherLake();
         count();
         digest();
@@ -26,7 +27,7 @@ public final class ToldTest {
         x.write(0, 3, 0, 1, 5, 5);
         x.fish(1);
         x.ice(2, 50);
-        Due.pass(x, "t2s");
+        Due.pass(x, "t2ss");
         due.is("24 two debts", x.restore(), 2);
         due.is("24 all is as it was", x.digest(), before);
         due.is("24 not saved", x.about(0, 7), 1);
@@ -53,6 +54,37 @@ public final class ToldTest {
         x.fish(3);
         x.restore();
         due.is("23 saved is kept", x.about(2, 7), 3);
+        x.saw(0);
+        x.image();
+        x.lake(2, 2);
+        due.is("24 another lake", x.restore(), S);
+    }
+
+    private static void imageOfSaved() {
+        NamesOnIce x = new NamesOnIce();
+        x.ice(0, 40);
+        x.write(4, 0, 0, 1, 5, 5);
+        x.write(0, 0, 0, 1, 5, 5);
+        x.saw(0);
+        x.image();
+        x.lake(2, 2);
+        x.image();
+        x.write(0, 0, 2, 3, 5, 5);
+        x.restore();
+        x.ice(1, 40);
+        x.write(4, 1, 0, 1, 5, 5);
+        due.is("24 written anew: not saved", x.about(0, 7), 2);
+        x.saw(0);
+        x.ice(1, 20);
+        x.image();
+        x.restore();
+        due.is("24 worth as when it was saved", x.about(0, 6), 9);
+        x.restore();
+        x.write(0, 1, 0, 1, 7, 5);
+        x.restore();
+        due.is("24 what came since is not owed", x.owes(0, 1, false), 9);
+        due.is("24 nor read", x.skate(1, 1, 1), 0);
+        due.is("24 nor fished", x.fish(1), 0);
     }
 
     private static void imageOfAnotherLake() {
@@ -129,6 +161,11 @@ public final class ToldTest {
         Due.put(x, "t1c");
         due.is("26 letters", x.digest(), digestOf(x, "t1c"));
         due.is("26 changes nothing", x.digest(), digestOf(x, "t1c"));
+        x.blank();
+        Due.pass(x, "w");
+        x.write(0, 0, 0, 1, 40, 5);
+        Due.put(x, "t1c");
+        due.is("26 what is read in square 0", x.digest(), digestOf(x, "t1c"));
         x.fish(1);
         x.fish(2);
         due.is("26 no way", x.digest(), digestOf(x, "t1c"));
