@@ -13,6 +13,7 @@ public final class DaysTest {
         daysRefused();
         needed();
         bears();
+        shorterPage();
         due.end();
     }
 
@@ -214,6 +215,29 @@ public final class DaysTest {
         Due.put(x, "t1");
         due.is("14 whether or not there is room for a debt", x.needed(0, 0), 2);
         due.is("14 nothing has gone", x.count(2), 10);
+    }
+
+    /** Letters that were blanked are no days, though a new page is shorter than the old one. */
+    private static void shorterPage() {
+        NamesOnIce x = new NamesOnIce();
+        x.ice(4, 3);
+        Due.put(x, "st3");
+        x.blank();
+        Due.put(x, "s");
+        due.is("14 an old thaw is gone", x.needed(0, 4), 1);
+        due.is("13 an old thaw is gone", x.days(), 0);
+        due.is("13 the ice is as before", x.square(4, 0), 3);
+        due.is("13 one day has gone", x.count(3), 1);
+        Due.put(x, "sc9");
+        x.blank();
+        Due.put(x, "s");
+        due.is("15 an old cold is gone", x.bears(4), N);
+        NamesOnIce y = new NamesOnIce();
+        y.ice(4, 0);
+        Due.put(y, "t1t1t1t1t1t1t1t1t1t1t1t1");
+        due.is("14 a whole page", y.needed(0, 4), N);
+        due.is("15 a whole page", y.bears(4), N);
+        due.is("14 a whole page on 10", y.needed(4, 0), N);
     }
 
     private static void bearsBehind(String text, int ice, int want) {
