@@ -199,9 +199,11 @@ public final class NamesOnIce {
             return STATE;
         }
         int gone = 0;
-        for (int at = 0; at < page.size; at += page.lengthAt(at)) {
-            gone += town.passDay(page.dayAt(at), page.inchesAt(at));
-            town.daysGone++;
+        for (int at = 0; at < page.size; at++) {
+            if (page.beginsDay(at)) {
+                gone += town.passDay(page.dayAt(at), page.inchesAt(at));
+                town.daysGone++;
+            }
         }
         page.size = 0;
         return gone;
@@ -754,8 +756,9 @@ public final class NamesOnIce {
             return size > 0 && firstWrong() == size && !hasInches(codes[size - 1]);
         }
 
-        int lengthAt(int at) {
-            return hasInches(codes[at]) ? 2 : 1;
+        /** Of DAYS: a letter that begins none tells the inches of the one before it. */
+        boolean beginsDay(int at) {
+            return hasInches(codes[at]) || isWholeDay(codes[at]);
         }
 
         int dayAt(int at) {
@@ -778,24 +781,23 @@ public final class NamesOnIce {
         boolean outlasts(int kind, int depth, int iceNow) {
             int ice = iceNow;
             int cut = depth;
-            for (int at = 0; at < size; at += lengthAt(at)) {
-                ice = iceBehind(dayAt(at), inchesAt(at), ice);
-                if (dayAt(at) == THAW) {
-                    cut = Debt.cutBehindThaw(kind, cut, inchesAt(at), ice);
-                }
-                if (cut == 0) {
-                    return false;
+            for (int at = 0; at < size && cut > 0; at++) {
+                if (beginsDay(at)) {
+                    ice = iceBehind(dayAt(at), inchesAt(at), ice);
+                    cut = dayAt(at) == THAW ? Debt.cutBehindThaw(kind, cut, inchesAt(at), ice) : cut;
                 }
             }
-            return true;
+            return cut > 0;
         }
 
         int daysUntilBearing(int iceNow) {
             int ice = iceNow;
             int days = 0;
-            for (int at = 0; at < size && ice < BEARING_ICE; at += lengthAt(at)) {
-                ice = iceBehind(dayAt(at), inchesAt(at), ice);
-                days++;
+            for (int at = 0; at < size && ice < BEARING_ICE; at++) {
+                if (beginsDay(at)) {
+                    ice = iceBehind(dayAt(at), inchesAt(at), ice);
+                    days++;
+                }
             }
             return ice >= BEARING_ICE ? days : NONE;
         }
@@ -819,7 +821,7 @@ public final class NamesOnIce {
                 return;
             }
             enter(from, 0, readable[from]);
-            for (int i = 0; i < queued; i++) {
+            for (int i = 0; i < queued && i < MOST_SQUARES; i++) {
                 leave(town, queue[i]);
             }
         }
