@@ -5,6 +5,7 @@ public final class LakeEdgesTest {
     private static final Edges edges = new Edges(due);
 
     public static void main(String[] args) {
+        atFirst();
         twoToFour();
         anotherLake();
         rowByRow();
@@ -20,6 +21,22 @@ public final class LakeEdgesTest {
         noIce();
         theLast();
         due.end();
+    }
+
+    private static void atFirst() {
+        NamesOnIce x = new NamesOnIce();
+        for (int s = 0; s < 9; s++) {
+            due.is("1 ICE (10 at first)", x.square(s, 0), 10);
+            due.is("1 SNOW (0 at first)", x.square(s, 1), 0);
+            due.is("1 no DEBTS", x.square(s, 2), 0);
+        }
+        due.is("1 A LAKE of 3 ROWS of 3 SQUARES: none below", x.square(-1, 0), U);
+        due.is("1 A LAKE of 3 ROWS of 3 SQUARES: none above", x.square(9, 0), U);
+        due.is("1 ROWS of 3", x.skate(0, 2, 0), 2);
+        due.is("1 3 ROWS", x.skate(0, 6, 0), 2);
+        due.is("1 no DEBT", x.about(0, 0), U);
+        due.is("1 THE PAGE is empty", x.blank(), 0);
+        due.is("1 no IMAGE", x.restore(), S);
     }
 
     private static void twoToFour() {
@@ -53,6 +70,9 @@ public final class LakeEdgesTest {
         due.is(says + " days", x.count(3), 0);
         due.is(says + " debts", x.count(1), 0);
         due.is(says + " standing", x.count(2), 0);
+        due.is(says + " sledges", x.sledges(3, 200, 0), 0);
+        due.is(says + " bits", x.sledges(3, 200, 1), 0);
+        due.is(says + " winter", x.winter(1, 0, 0), 0);
         due.is(says, x.lake(4, 4), 16);
         for (int s = 0; s < 16; s++) {
             due.is(says + " ice of " + s, x.square(s, 0), 10);

@@ -85,13 +85,15 @@ public final class ToldEdgesTest {
             due.is("(those that come since are gone by restore())", x.about(kept, 0), U);
             due.is("25 DEBTS", x.count(1), kept);
             due.is("25 THERE", x.count(2), kept);
+            due.is("18 none that came since is laid", x.sledges(3, 200, 1), (1 << kept) - 1);
+            due.is("22 none that came since outlasts COLD", x.winter(1, 0, 0), kept);
             for (int i = kept; i < 10; i++) {
                 due.is("6 their numbers are free", x.write(4, 8, 5, 4, 98, 9), i);
                 due.is("7 a new one", x.about(i, 4), 98);
             }
             due.is("6 FULL again", x.write(0, 8, 5, 4, 99, 9), F);
             due.is("24 once more", x.restore(), kept);
-            due.is("24 as before", x.digest(), digest);
+            due.is("24 as before, but for what sledges() did", x.digest(), digest + 1);
         }
     }
 
@@ -191,12 +193,14 @@ public final class ToldEdgesTest {
     /** Without a wrap, by great numbers; cut to a long at the very end. */
     private static long digestOf(NamesOnIce x, String page) {
         List<Integer> all = new ArrayList<>();
-        for (int s = 0; s < x.count(0); s++) {
+        int squares = x.count(0);
+        int debts = x.count(1);
+        for (int s = 0; s < squares; s++) {
             for (int what = 0; what < 4; what++) {
                 all.add(x.square(s, what));
             }
         }
-        for (int debt = 0; debt < x.count(1); debt++) {
+        for (int debt = 0; debt < debts; debt++) {
             for (int what = 0; what < 8; what++) {
                 all.add(x.about(debt, what));
             }
@@ -206,8 +210,8 @@ public final class ToldEdgesTest {
         }
         all.add(x.settled(0));
         all.add(x.settled(1));
-        all.add(x.skate(0, x.count(0) - 1, 0));
-        all.add(x.skate(0, x.count(0) - 1, 1));
+        all.add(x.skate(0, squares - 1, 0));
+        all.add(x.skate(0, squares - 1, 1));
         for (int i = 0; i < page.length(); i++) {
             all.add((int) page.charAt(i));
         }

@@ -123,12 +123,14 @@ public final class ToldTest {
 
     private static long digestOf(NamesOnIce x, String page) {
         long h = 617;
-        for (int i = 0; i < x.count(0); i++) {
+        int squares = x.count(0);
+        int debts = x.count(1);
+        for (int i = 0; i < squares; i++) {
             for (int what = 0; what < 4; what++) {
                 h = 31 * h + x.square(i, what);
             }
         }
-        for (int i = 0; i < x.count(1); i++) {
+        for (int i = 0; i < debts; i++) {
             for (int what = 0; what < 8; what++) {
                 h = 31 * h + x.about(i, what);
             }
@@ -137,7 +139,7 @@ public final class ToldTest {
             h = 31 * h + x.rest(p);
         }
         h = 31 * (31 * h + x.settled(0)) + x.settled(1);
-        h = 31 * (31 * h + x.skate(0, x.count(0) - 1, 0)) + x.skate(0, x.count(0) - 1, 1);
+        h = 31 * (31 * h + x.skate(0, squares - 1, 0)) + x.skate(0, squares - 1, 1);
         for (int i = 0; i < page.length(); i++) {
             h = 31 * h + page.charAt(i);
         }
