@@ -326,13 +326,13 @@ public final class NamesOnIce {
         }
         int ice = town.iceUnder(number);
         int cut = debt.cut;
-        int thaws = -1;
-        while (cut > 0 && thaws < days) {
-            thaws++;
+        int outlasted = -1;
+        for (int thaws = 0; thaws <= days && cut > 0; thaws++) {
+            outlasted = thaws;
             ice = iceBehind(THAW, inches, ice);
             cut = Debt.cutBehindThaw(debt.kind, cut, inches, ice);
         }
-        return thaws;
+        return outlasted;
     }
 
     public int winter(int days, int seed, int what) {
